@@ -265,7 +265,7 @@ public final class MendedBank {
                 int column = bestFreeColumn();
                 give(bit, column);
                 for (int row = 0; row < c; row++) {
-                    rowOnes[row] += column >> row & 1;
+                    rowOnes[row] += (column >> row) & 1;
                 }
             }
             for (int row = 0; row < c; row++) {
@@ -284,12 +284,12 @@ public final class MendedBank {
             int bestFullest = 0;
             for (int column = 1; column < 1 << rows; column++) {
                 int ones = Integer.bitCount(column);
-                if (ones != 3 && ones != 5 || bitByColumn[column] != NONE) {
+                if ((ones != 3 && ones != 5) || bitByColumn[column] != NONE) {
                     continue;
                 }
                 int fullest = fullestRowWith(column);
                 // Columns come in rising order, so of equal ones the least stays.
-                if (best == 0 || ones < bestOnes || ones == bestOnes && fullest < bestFullest) {
+                if (best == 0 || ones < bestOnes || (ones == bestOnes && fullest < bestFullest)) {
                     best = column;
                     bestOnes = ones;
                     bestFullest = fullest;
@@ -301,7 +301,7 @@ public final class MendedBank {
         private int fullestRowWith(int column) {
             int fullest = 0;
             for (int row = 0; row < rows; row++) {
-                fullest = Math.max(fullest, rowOnes[row] + (column >> row & 1));
+                fullest = Math.max(fullest, rowOnes[row] + ((column >> row) & 1));
             }
             return fullest;
         }
@@ -357,7 +357,7 @@ public final class MendedBank {
         int syndromeOf(int set) {
             int sum = 0;
             for (int bit = 0; bit < width(); bit++) {
-                if ((set >> bit & 1) != 0) {
+                if (((set >> bit) & 1) != 0) {
                     sum ^= columns[bit];
                 }
             }
@@ -366,11 +366,11 @@ public final class MendedBank {
 
         int wordOf(int value) {
             // Check bit i alone has syndrome 2^i, so the value's syndrome names its check bits.
-            return value | syndromeOf(value) << dataBits;
+            return value | (syndromeOf(value) << dataBits);
         }
 
         int valueOf(int set) {
-            return set & (1 << dataBits) - 1;
+            return set & ((1 << dataBits) - 1);
         }
 
         /** The bit with this column; NONE if there is none. */
@@ -385,7 +385,7 @@ public final class MendedBank {
                 return set;
             }
             int bit = bitByColumn[sum];
-            return bit == NONE ? FOUND : set ^ 1 << bit;
+            return bit == NONE ? FOUND : set ^ (1 << bit);
         }
     }
 
@@ -412,7 +412,7 @@ public final class MendedBank {
         /** Puts these ones into the row, in the places told and not stuck. */
         void put(int row, int ones, int places) {
             int open = places & ~stuck[row];
-            values[row] = values[row] & ~open | ones & open;
+            values[row] = (values[row] & ~open) | (ones & open);
         }
 
         int turn(int row, int places) {
@@ -422,11 +422,11 @@ public final class MendedBank {
         }
 
         int valueAt(int row, int place) {
-            return values[row] >> place & 1;
+            return (values[row] >> place) & 1;
         }
 
         void setValue(int row, int place, int value) {
-            values[row] = values[row] & ~(1 << place) | value << place;
+            values[row] = (values[row] & ~(1 << place)) | (value << place);
         }
 
         void hold(int row, int place, int value) {
@@ -486,7 +486,7 @@ public final class MendedBank {
             int bad = 0;
             for (int word = 0; word < WORDS; word++) {
                 for (int place = 0; place < MOST_PLACES; place++) {
-                    if ((places >> place & 1) != 0 && isBad(frame * WORDS + word, place)) {
+                    if (((places >> place) & 1) != 0 && isBad(frame * WORDS + word, place)) {
                         bad++;
                     }
                 }
@@ -596,6 +596,7 @@ public final class MendedBank {
         private int retiredCount;
         // The one bit that is in the spare place; NONE while that is not in use.
         private int swappedBit = NONE;
+        private int sparePlace;
         private int scrubPage;
         private int scrubWord;
 
@@ -612,6 +613,7 @@ public final class MendedBank {
             Arrays.fill(keptValues, 0);
             retiredCount = 0;
             swappedBit = NONE;
+            sparePlace = rules.width();
             scrubPage = 0;
             scrubWord = 0;
         }
@@ -625,7 +627,7 @@ public final class MendedBank {
         }
 
         int placeOf(int bit) {
-            return bit == swappedBit ? sparePlace() : bit;
+            return bit == swappedBit ? sparePlace : bit;
         }
 
         int retiredFrame(int k) {
@@ -651,7 +653,7 @@ public final class MendedBank {
                 return places & rules.allBits();
             }
             int others = places & rules.allBits() & ~(1 << swappedBit);
-            return others | (places >> sparePlace() & 1) << swappedBit;
+            return others | (((places >> sparePlace) & 1) << swappedBit);
         }
 
         int turn(int page, int word, int set) {
@@ -692,7 +694,7 @@ public final class MendedBank {
             boolean swapped = swapIfDue(bit);
             boolean retiring = retireIfDue(page);
             history.noteMending(page, swapped, retiring);
-            return set ^ 1 << bit;
+            return set ^ (1 << bit);
         }
 
         /** Scrubs the word that comes next: whether it was mended. */
@@ -737,15 +739,11 @@ public final class MendedBank {
             return frames[page] * WORDS + word;
         }
 
-        private int sparePlace() {
-            return rules.width();
-        }
-
         private int placesOf(int set) {
             if (swappedBit == NONE) {
                 return set;
             }
-            return set & ~(1 << swappedBit) | (set >> swappedBit & 1) << sparePlace();
+            return (set & ~(1 << swappedBit)) | (((set >> swappedBit) & 1) << sparePlace);
         }
 
         private int placesInUse() {
@@ -761,7 +759,7 @@ public final class MendedBank {
             if (swappedBit != NONE || cells.badInPlace(bit) < BAD_WORDS_TO_SWAP) {
                 return false;
             }
-            cells.copyPlace(bit, sparePlace());
+            cells.copyPlace(bit, sparePlace);
             swappedBit = bit;
             return true;
         }
