@@ -154,6 +154,30 @@ public final class PromisesTest {
         }
         due("flip anew: not stuck", x.flip(0, 0, 1), 1);
         due("fate anew", x.fate(0, 0, 1), 0);
+        codeAnewBehindSwapAndRetiring();
+    }
+
+    private static void codeAnewBehindSwapAndRetiring() {
+        MendedBank x = coded(4, 4);
+        x.write(0, 0, 5);
+        for (int p = 1; p < 4; p++) {
+            wear(x, p, 0, 0, 2);
+        }
+        for (int bit = 1; bit < 5; bit++) {
+            wear(x, 0, 0, bit, 2);
+        }
+        due("place", x.place(0), 8);
+        due("frame", x.frame(0), 4);
+        due("code anew", x.code(4, 4), 8);
+        due("place anew", x.place(0), 0);
+        due("frame anew", x.frame(0), 0);
+        due("retired anew", x.retired(0), UNKNOWN);
+        due("many(6) anew", x.many(6), 0);
+        due("many(7) anew", x.many(7), 2);
+        due("the value put last is 0 anew", x.fate(0, 0, 0), 0);
+        for (int what = 0; what < 6; what++) {
+            due("look anew", x.look(what), NONE);
+        }
     }
 
     private static void promises3and4() {
