@@ -121,6 +121,21 @@ public final class EdgesOfPromisesTest extends Edges {
                 due("many(" + what + ")", x.many(what), wants[what]);
             }
         });
+        edge("Promise 2", words, "a new BANK behind two that moved: all PAGES are back", () -> {
+            for (int first = 0; first < 4; first++) {
+                MendedBank x = coded(14, 6);
+                int second = (first + 1) % 4;
+                for (int b = 0; b < 4; b++) {
+                    wear(x, first, 0, b, 2);
+                    wear(x, second, 1, 4 + b, 2);
+                }
+                due("moved", x.frame(first) + x.frame(second), 9);
+                x.code(14, 6);
+                for (int p = 0; p < 4; p++) {
+                    due("frame(" + p + ")", x.frame(p), p);
+                }
+            }
+        });
         edge("Promise 2", words, "a narrower CODE leaves nothing of a wider one", () -> {
             MendedBank x = coded(14, 6);
             x.patterns(3, 3);
@@ -374,6 +389,11 @@ public final class EdgesOfPromisesTest extends Edges {
         edge("Promise 10", words, "a WORD too large", () ->
             dueEach("raw", w -> coded(4, 4).raw(1, w), UNKNOWN, tooLarge(4)));
         edge("Promise 10", words, "no CODE", () -> due("raw", new MendedBank().raw(0, 0), UNKNOWN));
+        edge("Promise 10", words, "a refusal changes nothing", () ->
+            changesNothing(x -> {
+                due("a wrong PAGE", x.raw(4, 0), UNKNOWN);
+                due("a wrong WORD", x.raw(0, 4), UNKNOWN);
+            }));
     }
 
     private static void flip() {
@@ -465,6 +485,8 @@ public final class EdgesOfPromisesTest extends Edges {
             x.stick(0, 0, 0, 0);
             due("stick", x.stick(0, 0, 0, 1), 0);
             due("raw", x.raw(0, 0), 1);
+            due("STUCK still", x.flip(0, 0, 1), 0);
+            due("STUCK once", x.many(5), 1);
             due("stick", x.stick(0, 0, 0, 0), 1);
             due("STUCK once", x.many(5), 1);
         });
@@ -594,7 +616,8 @@ public final class EdgesOfPromisesTest extends Edges {
             dueLook(coded(4, 4), NONE, NONE, NONE, NONE, NONE, NONE));
         edge("Promise 14", words, "none since code() anew", () -> {
             MendedBank x = worn();
-            due("one ahead of it", x.look(0), 0);
+            wear(x, 3, 1, 4, 1);
+            dueLook(x, 1, 4, 0, 0, 3, 1);
             x.code(1, 4);
             dueLook(x, NONE, NONE, NONE, NONE, NONE, NONE);
         });
@@ -678,6 +701,8 @@ public final class EdgesOfPromisesTest extends Edges {
         });
         edge("Promise 14", words, "OUTSIDE without a CODE too", () ->
             dueEach("look", new MendedBank()::look, OUTSIDE, -1, 6, MOST, LEAST));
+        edge("Promise 14", words, "a refusal changes nothing", () ->
+            changesNothing(x -> due("look", x.look(6), OUTSIDE)));
     }
 
     private static void fate() {
@@ -783,6 +808,12 @@ public final class EdgesOfPromisesTest extends Edges {
             dueEach("fate", set -> coded(14, 6).fate(0, 0, set), OUTSIDE, tooLarge(1 << 20));
         });
         edge("Promise 15", words, "no CODE", () -> due("fate", new MendedBank().fate(0, 0, 0), UNKNOWN));
+        edge("Promise 15", words, "a refusal changes nothing", () ->
+            changesNothing(x -> {
+                due("a wrong PAGE", x.fate(4, 0, 1), UNKNOWN);
+                due("a wrong WORD", x.fate(0, 4, 1), UNKNOWN);
+                due("a wrong set", x.fate(0, 0, 32), OUTSIDE);
+            }));
     }
 
     private static void marks() {
@@ -1237,6 +1268,31 @@ public final class EdgesOfPromisesTest extends Edges {
             due("all of a retired FRAME", x.many(5), 0);
             x.stick(3, 3, 7, 0);
             due("one in a spare FRAME", x.many(5), 1);
+        });
+        edge("Promise 25", words, "a BAD and a STUCK CELL in each WORD, the first and the last too", () -> {
+            MendedBank x = coded(14, 6);
+            for (int i = 0; i < 16; i++) {
+                due("many(5)", x.many(5), i);
+                x.stick(i / 4, i % 4, 19 - i % 2, 0);
+            }
+            due("many(5)", x.many(5), 16);
+            for (int i = 0; i < 12; i++) {
+                due("many(4)", x.many(4), i);
+                wear(x, i / 3, i % 3, i, 2);
+            }
+            due("many(4)", x.many(4), 12);
+        });
+        edge("Promise 25", words, "BAD and STUCK CELLS of the last FRAME, in use", () -> {
+            MendedBank x = coded(14, 6);
+            for (int b = 0; b < 8; b++) {
+                wear(x, 3, 3, b, 2);
+            }
+            due("frame(3)", x.frame(3), 5);
+            x.stick(3, 3, 19, 1);
+            x.read(3, 3);
+            x.read(3, 3);
+            due("many(4)", x.many(4), 1);
+            due("many(5)", x.many(5), 1);
         });
         edge("Promise 25", words, "the spare PLACE, in use by its first BIT", () -> {
             MendedBank x = coded(4, 4);

@@ -558,20 +558,41 @@ public final class EdgesOfTermsTest extends Edges {
         });
     }
 
+    /** One MARK on BITS 1 .. 3 of each WORD. */
+    private static MendedBank marked() {
+        MendedBank x = coded(4, 4);
+        for (int i = 0; i < 16; i++) {
+            for (int b = 1; b < 4; b++) {
+                wear(x, i / 4, i % 4, b, 1);
+            }
+        }
+        return x;
+    }
+
+    private static void dueMarked(MendedBank x) {
+        for (int i = 0; i < 16; i++) {
+            for (int b = 1; b < 4; b++) {
+                due("marks(" + i / 4 + ", " + i % 4 + ", " + b + ")", x.marks(i / 4, i % 4, b), 1);
+            }
+        }
+    }
+
     private static void swapDone() {
         String words = "each CELL of the spare PLACE, in all FRAMES, becomes what the CELL of the PLACE has "
             + "(MARKS 0, not STUCK); the BIT is in the spare PLACE from now on";
         edge("Terms 2", words, "all WORDS, CELLS with 0 and with 1", () -> {
-            MendedBank x = coded(4, 4);
-            for (int i = 0; i < 16; i++) {
-                x.write(i / 4, i % 4, i);
-            }
-            for (int p = 0; p < 3; p++) {
-                wear(x, p, 0, 0, 2);
-            }
-            due("place", x.place(0), 8);
-            for (int i = 0; i < 16; i++) {
-                due("raw", x.raw(i / 4, i % 4), x.word(i));
+            for (int turn = 0; turn <= 15; turn += 15) {
+                MendedBank x = coded(4, 4);
+                for (int i = 0; i < 16; i++) {
+                    x.write(i / 4, i % 4, i ^ turn);
+                }
+                for (int p = 0; p < 3; p++) {
+                    wear(x, p, 0, 0, 2);
+                }
+                due("place", x.place(0), 8);
+                for (int i = 0; i < 16; i++) {
+                    due("raw", x.raw(i / 4, i % 4), x.word(i ^ turn));
+                }
             }
         });
         edge("Terms 2", words, "a PAGE in a spare FRAME", () -> {
@@ -601,6 +622,14 @@ public final class EdgesOfTermsTest extends Edges {
                 due("old marks", x.marks(f, 0, 0), f < 3 ? 2 : 0);
             }
             due("BAD CELLS in use", x.many(4), 0);
+        });
+        edge("Terms 2", words, "MARKS of all other CELLS stay", () -> {
+            MendedBank x = marked();
+            for (int p = 0; p < 3; p++) {
+                wear(x, p, 0, 0, 2);
+            }
+            due("place", x.place(0), 8);
+            dueMarked(x);
         });
         edge("Terms 2", words, "a STUCK CELL is left behind in the old PLACE", () -> {
             MendedBank x = coded(4, 4);
@@ -779,6 +808,27 @@ public final class EdgesOfTermsTest extends Edges {
                 due("old marks", x.marks(0, 0, b), 2);
             }
             due("BAD CELLS in use", x.many(4), 0);
+        });
+        edge("Terms 2", words, "MARKS of all other FRAMES stay", () -> {
+            MendedBank x = marked();
+            for (int b = 4; b < 8; b++) {
+                wear(x, 0, 0, b, 2);
+            }
+            due("frame(0)", x.frame(0), 4);
+            dueMarked(x);
+        });
+        edge("Terms 2", words, "MARKS of the last CELL ahead of the new FRAME stay", () -> {
+            MendedBank x = coded(14, 6);
+            for (int p = 0; p < 3; p++) {
+                wear(x, p, 0, 19, 2);
+            }
+            wear(x, 3, 3, 19, 1);
+            due("marks", x.marks(3, 3, 20), 1);
+            for (int b = 0; b < 4; b++) {
+                wear(x, 0, 0, b, 2);
+            }
+            due("frame(0)", x.frame(0), 4);
+            due("marks", x.marks(3, 3, 20), 1);
         });
         edge("Terms 2", words, "a STUCK CELL is left behind in the old FRAME", () -> {
             MendedBank x = coded(4, 4);
