@@ -15,14 +15,9 @@ import java.util.stream.Collectors;
 /** The public face is that of the document, and the source keeps to what can be seen of the language's rules. */
 public final class FaceTest {
     private static final String SOURCE = "src/main/java/MendedBank.java";
-    private static final String[] CONSTANTS = {"int UNKNOWN", "int OUTSIDE", "int STATE", "int FOUND", "int NONE",
-        "long LOST"};
-    private static final String[] METHODS = {"int code(int,int)", "int column(int)", "int ones(int)", "int word(int)",
-        "int syndrome(int)", "int mended(int)", "int write(int,int,int)", "int read(int,int)", "int raw(int,int)",
-        "int flip(int,int,int)", "int stick(int,int,int,int)", "int scrub(int)", "int look(int)",
-        "int fate(int,int,int)", "int marks(int,int,int)", "int frame(int)", "int place(int)", "int retired(int)",
-        "int troubled(int)", "int mends(int)", "int patterns(int,int)", "int weight()", "long safe(int,int,int)",
-        "int many(int)"};
+    private static final String DOCUMENT = "../shared/DOC.md";
+    private static final int MOST_LINES = 60;
+    private static final int MOST_CLASSES = 12;
 
     private static int wrong = 0;
 
@@ -38,7 +33,36 @@ public final class FaceTest {
         return m.getReturnType().getName() + " " + m.getName() + "(" + types + ")";
     }
 
-    private static void face() {
+    /** The document's own telling of the face. */
+    private static String faceOf(String document) {
+        Matcher block = Pattern.compile("(?s)```java\n(.*?)```").matcher(document);
+        return block.find() ? block.group(1) : "";
+    }
+
+    private static Set<String> methodsOf(String face) {
+        Set<String> methods = new TreeSet<>();
+        Matcher line = Pattern.compile("public (\\w+ \\w+)\\(([^)]*)\\);").matcher(face);
+        while (line.find()) {
+            methods.add(line.group(1) + "(" + line.group(2).replaceAll(" \\w+(,|$)", "$1").replace(" ", "") + ")");
+        }
+        return methods;
+    }
+
+    private static Set<String> constantsOf(String face) {
+        Set<String> constants = new TreeSet<>();
+        Matcher line = Pattern.compile("public static final (\\w+) ([^;]*);").matcher(face);
+        while (line.find()) {
+            for (String constant : line.group(2).split(", ")) {
+                String value = constant.replace("Long.MIN_VALUE", Long.toString(Long.MIN_VALUE));
+                constants.add(line.group(1) + " " + value);
+            }
+        }
+        return constants;
+    }
+
+    private static void face(String told) throws IllegalAccessException {
+        due("the document's face, in methods", methodsOf(told).size(), 24);
+        due("the document's face, in constants", constantsOf(told).size(), 6);
         Class<?> face = MendedBank.class;
         due("public final", Modifier.isPublic(face.getModifiers()) && Modifier.isFinal(face.getModifiers()), true);
         Set<String> methods = new TreeSet<>();
@@ -50,15 +74,15 @@ public final class FaceTest {
                 names.add(m.getName());
             }
         }
-        due("the methods", methods, new TreeSet<>(Arrays.asList(METHODS)));
+        due("the methods", methods, methodsOf(told));
         Set<String> constants = new TreeSet<>();
         for (Field f : face.getDeclaredFields()) {
             if (!Modifier.isPrivate(f.getModifiers())) {
                 due("constant " + f, f.getModifiers(), Modifier.PUBLIC | Modifier.STATIC | Modifier.FINAL);
-                constants.add(f.getType().getName() + " " + f.getName());
+                constants.add(f.getType().getName() + " " + f.getName() + " = " + f.get(null));
             }
         }
-        due("the constants", constants, new TreeSet<>(Arrays.asList(CONSTANTS)));
+        due("the constants", constants, constantsOf(told));
         Constructor<?>[] makers = face.getDeclaredConstructors();
         due("one constructor", makers.length, 1);
         due("constructor", makers[0].getParameterCount() == 0 && Modifier.isPublic(makers[0].getModifiers()), true);
@@ -84,8 +108,26 @@ public final class FaceTest {
         }
     }
 
-    private static void source() throws IOException {
-        String text = Files.readString(Path.of(SOURCE)).replaceAll("(?s)/\\*.*?\\*/", "").replaceAll("//[^\n]*", "");
+    /** Behind each of the document's headings for calls the source has these calls and no other public ones. */
+    private static void headings(String document, String source) {
+        Matcher told = Pattern.compile("Ahead of the calls (.*) the interface says: (---- [^.]*)\\.").matcher(document);
+        int count = 0;
+        while (told.find()) {
+            count++;
+            String part = source.substring(source.indexOf("// " + told.group(2) + "\n") + 1);
+            int end = part.indexOf("// ----");
+            Set<String> got = new TreeSet<>();
+            Matcher calls = Pattern.compile("\n    public \\w+ (\\w+)\\(").matcher(end < 0 ? part : part.substring(0, end));
+            while (calls.find()) {
+                got.add(calls.group(1));
+            }
+            due("calls behind " + told.group(2), got, new TreeSet<>(Arrays.asList(told.group(1).replace("`", "").split(", "))));
+        }
+        due("headings for calls", count, 3);
+    }
+
+    private static void source(String whole) {
+        String text = whole.replaceAll("(?s)/\\*.*?\\*/", "").replaceAll("//[^\n]*", "");
         Matcher barred = Pattern.compile("\\b(throw|throws|try|catch|synchronized|assert|package|double|float)\\b"
             + "|->|::|Exact\\b|System\\.|[^\\x00-\\x7f]").matcher(text);
         while (barred.find()) {
@@ -95,11 +137,27 @@ public final class FaceTest {
         while (imports.find()) {
             due("import", imports.group(1), "java.util.Arrays");
         }
+        due("few classes", MendedBank.class.getDeclaredClasses().length < MOST_CLASSES, true);
+        methodLengths(whole);
     }
 
-    public static void main(String[] args) throws IOException {
-        face();
-        source();
+    /** A method begins with a line that ends in ") {" at the depth of members, and ends with a brace at that depth. */
+    private static void methodLengths(String whole) {
+        Matcher method = Pattern.compile("(?m)^(    |        )(\\w[^\n]*\\)) \\{\n(?s:(.*?))^\\1\\}").matcher(whole);
+        int count = 0;
+        while (method.find()) {
+            count++;
+            due("short " + method.group(2), method.group(3).split("\n").length < MOST_LINES, true);
+        }
+        due("methods seen", count > 50, true);
+    }
+
+    public static void main(String[] args) throws IOException, IllegalAccessException {
+        String document = Files.readString(Path.of(DOCUMENT));
+        String whole = Files.readString(Path.of(SOURCE));
+        face(faceOf(document));
+        headings(document, whole);
+        source(whole);
         System.out.println(wrong == 0 ? "the face is as due" : wrong + " things are not as due");
         if (wrong != 0) {
             System.exit(1);

@@ -45,6 +45,7 @@ public final class PromisesTest {
 
     public static void main(String[] args) {
         constants();
+        whatItIs();
         promise1();
         promise2();
         promises3and4();
@@ -65,7 +66,6 @@ public final class PromisesTest {
         promise23();
         promise24();
         promise25();
-        readme();
         System.out.println(wrong == 0 ? "all promises as due" : wrong + " answers are not as due");
         if (wrong != 0) {
             System.exit(1);
@@ -720,15 +720,18 @@ public final class PromisesTest {
         }
     }
 
-    private static void readme() {
-        promise = "README";
-        MendedBank x = coded(8, 5);
-        due("write", x.write(2, 1, 77), 1);
-        due("flip", x.flip(2, 1, 1 << 3), 1);
-        due("read", x.read(2, 1), 77);
-        due("look(1)", x.look(1), 3);
-        due("scrub", x.scrub(16), 1);
-        due("safe", x.safe(4, 2, 0), 225);
-        due("safe", x.safe(4, 2, 1), 256);
+    /** The first lines of the document, for each code that there is. */
+    private static void whatItIs() {
+        promise = "What it is";
+        for (int c = 4; c <= 6; c++) {
+            for (int d = 1; d <= (c == 4 ? 4 : c == 5 ? 11 : 14); d++) {
+                MendedBank x = coded(d, c);
+                for (int b = 0; b < d + c; b++) {
+                    due("ones of column(" + b + ")", Integer.bitCount(x.column(b)) % 2, 1);
+                }
+                due("one wrong bit mended", x.patterns(1, 2), d + c);
+                due("two found", x.patterns(2, 4), (d + c) * (d + c - 1) / 2);
+            }
+        }
     }
 }
